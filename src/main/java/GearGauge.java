@@ -41,7 +41,6 @@ public final class GearGauge {
         for (int i = 0; i < SAVED_AT_MOST; i++) {
             saved[i] = new State();
         }
-        savedCount = 0;
         text = new Text();
         pair = new Mesh();
         turned = new Gear();
@@ -1143,7 +1142,7 @@ public final class GearGauge {
                 startNumber();
             } else if (c == '-') {
                 negative = true;
-            } else {
+            } else if (numbers > 0) {
                 int digit = c - '0';
                 values[numbers - 1] = values[numbers - 1] * 10 + (negative ? -digit : digit);
                 digits++;

@@ -43,6 +43,12 @@ public final class ClassPromisesTest {
         x.addGear(30, 20);
         x.addGear(12, 4);
         x.addGear(5, 1);
+        // Here both factors matter to the last digit.
+        GearGauge fine = gauge(5, 3);
+        int[] form = {13, 19, 28, 41, 58, 82, 115, 162, 229, 323, 456, 644};
+        for (int q = 1; q <= 12; q++) {
+            Due.is("tolerance of the form of class " + q, fine.tolerance(0, 5, q), form[q - 1]);
+        }
         int[] first = {27, 39, 56, 80, 114, 161, 227, 320, 452, 639, 903, 1276};
         int[] second = {11, 16, 23, 33, 48, 67, 94, 132, 186, 263, 371, 524};
         for (int q = 1; q <= 12; q++) {

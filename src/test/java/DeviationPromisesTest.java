@@ -103,7 +103,13 @@ public final class DeviationPromisesTest {
         }
         Due.is("thickness NONE", x.thickness(1, GearGauge.NONE), 41);
         Due.is("thickness of zeros", x.thickness(0, GearGauge.NONE), 0);
-        Due.is("thickness of zeros", x.thickness(0, 5), 0);
+        GearPromisesTest.set(x, 0, 0, 0, 12, 9, 9, 9, 9, 0);
+        Due.is("thickness above 0, from tooth 0 to 1", x.thickness(0, GearGauge.NONE), 12);
+        GearPromisesTest.set(x, 0, 0, 0, -12, -9, -9, -9, -9, 0);
+        Due.is("thickness below 0, from tooth 0 to 1", x.thickness(0, GearGauge.NONE), 12);
+        GearPromisesTest.set(x, 0, 0, 0, 0, 0, 0, 0, 20, 0);
+        Due.is("thickness of the last tooth", x.thickness(0, GearGauge.NONE), 20);
+        Due.is("thickness of zeros", x.thickness(0, 5), 20);
         int[][] bounds = {{-1, 0}, {2, 0}, {2, -1}, {1, -2}, {1, 5}, {0, 6}, {1, Integer.MIN_VALUE}};
         for (int[] b : bounds) {
             Due.throwing("thickness nowhere", x, Due.BOUNDS, () -> x.thickness(b[0], b[1]));
@@ -121,6 +127,8 @@ public final class DeviationPromisesTest {
         Due.is("eccentricity even", x.eccentricity(0), 1.5);
         GearPromisesTest.set(x, 1, 2, 0, 0, 0, 0, 9);
         Due.is("eccentricity around the wheel", x.eccentricity(1), 4.5);
+        GearPromisesTest.set(x, 1, 2, 10, 5, 0, 5, 5);
+        Due.is("eccentricity below 0, at tooth 0 alone", x.eccentricity(1), 5.0);
         Due.throwing("eccentricity nowhere", x, Due.BOUNDS, () -> x.eccentricity(2));
         Due.throwing("eccentricity nowhere", x, Due.BOUNDS, () -> x.eccentricity(-1));
     }

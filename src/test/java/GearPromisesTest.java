@@ -4,6 +4,7 @@ public final class GearPromisesTest {
         newObject();
         addGear();
         addGearAfterRemoval();
+        usedPlacesAreApart();
         removeGear();
         setReading();
         fill();
@@ -78,8 +79,39 @@ public final class GearPromisesTest {
         hasReadings("addGear in a used place", x, 0, 0, new int[7]);
         hasReadings("addGear in a used place", x, 0, 1, new int[7]);
         hasReadings("addGear in a used place", x, 0, 2, new int[6]);
+        x.fill(0, 5, 4000);
+        x.removeGear(0);
+        x.addGear(30, 2);
+        hasReadings("addGear of 30 teeth in a used place", x, 0, 0, new int[31]);
+        hasReadings("addGear of 30 teeth in a used place", x, 0, 1, new int[31]);
+        hasReadings("addGear of 30 teeth in a used place", x, 0, 2, new int[30]);
         Due.is("addLine in a used place", x.addLine(0, 0), 0);
         Due.is("addLine in a used place", x.line(0, 2), 0);
+    }
+
+    /** What stands beside a gear or line in a used place is not touched. */
+    private static void usedPlacesAreApart() {
+        GearGauge x = new GearGauge();
+        for (int i = 0; i < 3; i++) {
+            x.addGear(5 + i, 1);
+            x.addLine(i, 0);
+            x.addPoint(i, i);
+        }
+        x.removeLine(0);
+        x.addLine(0, 1);
+        x.addPoint(2, 50);
+        Due.is("a line beside", x.line(1, 2), 1);
+        Due.is("a line beside", x.point(1, 0), 2);
+        Due.is("a line in a used place", x.point(2, 0), 50);
+        x.removeGear(0);
+        x.addGear(9, 2);
+        x.fill(2, 3, 100);
+        Due.is("a gear beside", x.gear(0, 0), 6);
+        Due.is("a gear beside", x.gear(1, 0), 7);
+        hasReadings("a gear beside", x, 1, 0, new int[8]);
+        x.addGear(10, 2);
+        Due.is("a gear in a used place", x.gear(2, 0), 9);
+        Due.is("a gear behind", x.gear(3, 0), 10);
     }
 
     private static void removeGear() {
@@ -181,7 +213,7 @@ public final class GearPromisesTest {
 
     private static void turn() {
         GearGauge x = new GearGauge();
-        x.addGear(5, 1);
+        x.addGear(5, 7);
         x.addGear(5, 1);
         set(x, 0, 0, 1, 2, 4, 8, 16, 33);
         set(x, 0, 1, 0, 0, 0, 0, 7, -5);
@@ -196,6 +228,8 @@ public final class GearPromisesTest {
         hasReadings("turn by the last", x, 0, 0, 34, 36, 40, 48, 65, 66);
         hasReadings("turn by the last", x, 0, 2, 2, 3, 4, 5, 1);
         hasReadings("turn the other gear", x, 1, 2, new int[5]);
+        Due.is("turn leaves the teeth", x.gear(0, 0), 5);
+        Due.is("turn leaves the module", x.gear(0, 1), 7);
         Due.is("turn undone", x.undo(), 3);
         Due.is("turn undone, which changed nothing", x.undo(), 2);
         Due.is("turn undone", x.undo(), 1);

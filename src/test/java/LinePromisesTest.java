@@ -206,13 +206,14 @@ public final class LinePromisesTest {
         GearGauge x = gauge();
         isBest("straight", x, line(x, 0, 0, 7, 10, 13, 16), 3, 1, 7, 1);
         isBest("falling", x, line(x, 0, 0, -7, -10, -13), -3, 1, -7, 1);
+        isBest("in lowest terms as it is", x, line(x, 0, 0, 0, 0, 1), 1, 2, -1, 6);
         isBest("zeros", x, line(x, 0, 1, 0, 0, 0), 0, 1, 0, 1);
         isBest("level", x, line(x, 0, 1, -4, -4, -4), 0, 1, -4, 1);
         isBest("peak", x, line(x, 0, 0, 0, 10, 0), 0, 1, 10, 3);
         isBest("example", x, line(x, 0, 0, 0, 10, 5), 5, 2, 5, 2);
         isBest("four", x, line(x, 0, 0, 0, 0, 0, 1), 3, 10, -1, 5);
         isBest("four down", x, line(x, 0, 0, 0, 0, 0, -1), -3, 10, 1, 5);
-        isBest("through 0", x, line(x, 1, 0, 1, 1, 7, 5), 9, 5, 4, 5);
+        isBest("five", x, line(x, 1, 0, 1, 1, 7, 5), 9, 5, 4, 5);
     }
 
     private static void bestOfTwelve() {

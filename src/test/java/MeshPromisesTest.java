@@ -3,6 +3,7 @@ public final class MeshPromisesTest {
     public static void main(String[] args) {
         meshOfEqualTeeth();
         meshOfCommonDivisor();
+        meshOfOneTooth();
         meshOfCoprimeTeeth();
         meshWithItself();
         meshThrows();
@@ -55,6 +56,18 @@ public final class MeshPromisesTest {
         has("6 and 8", x, 0, 1, 1, 9, 1, 9, 1, 9, 1, 9, 1);
         x.setReading(0, 1, 2, -1);
         has("6 and 8", x, 0, 1, 1, 10, 2, 10, 2, 10, 2, 10, 2);
+    }
+
+    /** Tooth 0 alone has the least, and alone the most, of its class of teeth. */
+    private static void meshOfOneTooth() {
+        for (int sign = -1; sign <= 1; sign += 2) {
+            GearGauge x = gauge(6, 8);
+            for (int i = 1; i < 6; i++) {
+                x.setReading(0, 0, i, 3 * sign);
+            }
+            has("one tooth of 6", x, 0, 1, 0, 3, 3, 3, 3, 3, 3, 3, 3);
+            has("one tooth of 6, other way", x, 1, 0, 0, 3, 3, 3, 3, 3, 3);
+        }
     }
 
     private static void meshOfCoprimeTeeth() {
@@ -148,9 +161,10 @@ public final class MeshPromisesTest {
         Due.throwing("mean 9", x, Due.ARGUMENT, () -> x.mean(9));
         Due.throwing("mean -1", x, Due.ARGUMENT, () -> x.mean(-1));
         x.addGear(5, 1);
-        x.addGear(5, 1);
-        x.addGear(5, 1);
         x.setReading(0, 2, 1, 10);
+        Due.is("mean of one", x.mean(2), 10.0);
+        x.addGear(5, 1);
+        x.addGear(5, 1);
         x.setReading(1, 2, 1, -9);
         x.setReading(2, 2, 1, 1);
         Due.is("mean", x.mean(2), 20.0 / 3.0);
@@ -172,15 +186,26 @@ public final class MeshPromisesTest {
             Due.is("ranked equal", x.ranked(i), i);
         }
         x.setReading(0, 2, 0, 90);
-        x.setReading(1, 0, 1, 9);
-        x.setReading(2, 0, 1, 8);
-        x.setReading(4, 1, 1, -9);
+        x.setReading(1, 0, 1, 7);
+        x.setReading(2, 0, 1, 6);
+        x.setReading(4, 1, 1, -7);
         x.setReading(5, 2, 0, 30);
-        // Classes 6, 1, 1, 1, 1, 3; deviations 1: 0, 9, 8, 0, 9, 0.
+        // Classes 6, 1, 1, 1, 1, 3; deviations 1: 0, 7, 6, 0, 7, 0.
         int[] due = {3, 2, 1, 4, 5, 0};
         for (int i = 0; i < 6; i++) {
             Due.is("ranked " + i, x.ranked(i), due[i]);
         }
+        // Now gear 2 has the smallest pitch deviation, 4, but a deviation 1 of 8.
+        x.setReading(2, 0, 1, 4);
+        x.setReading(2, 0, 2, 8);
+        x.setReading(2, 0, 3, 4);
+        int[] byRange = {3, 1, 4, 2, 5, 0};
+        for (int i = 0; i < 6; i++) {
+            Due.is("ranked by deviation 1, " + i, x.ranked(i), byRange[i]);
+        }
+        x.undo();
+        x.undo();
+        x.undo();
         Due.throwing("ranked 6", x, Due.BOUNDS, () -> x.ranked(6));
         Due.throwing("ranked -1", x, Due.BOUNDS, () -> x.ranked(-1));
         x.removeGear(3);
