@@ -834,7 +834,7 @@ public final class GearGauge {
                 case 1:
                     return rounded(slopeNumerator() * (count - 1), denominator());
                 default:
-                    return formDeviation();
+                    return rounded(formNumerator(), denominator());
             }
         }
 
@@ -848,7 +848,7 @@ public final class GearGauge {
             return most - least;
         }
 
-        private int formDeviation() {
+        private long formNumerator() {
             long a = interceptNumerator();
             long b = slopeNumerator();
             long d = denominator();
@@ -859,7 +859,7 @@ public final class GearGauge {
                 most = Math.max(most, rest);
                 least = Math.min(least, rest);
             }
-            return rounded(most - least, d);
+            return most - least;
         }
 
         /** Above 0 from 2 points on; a and b of the best line are their numerators over this. */

@@ -4,6 +4,9 @@ final class Due {
     static final Class<IllegalStateException> STATE = IllegalStateException.class;
     static final Class<IndexOutOfBoundsException> BOUNDS = IndexOutOfBoundsException.class;
 
+    /** What is being tested, for what is printed. */
+    static String place = "";
+
     private static int checks = 0;
     private static int wrong = 0;
 
@@ -18,8 +21,12 @@ final class Due {
         checks++;
         if (!want.equals(got)) {
             wrong++;
-            System.out.println(call + " answered " + got + ", due is " + want);
+            System.out.println(place + call + " answered " + got + ", due is " + want);
         }
+    }
+
+    static int checks() {
+        return checks;
     }
 
     static void is(String call, long got, long want) {

@@ -2,7 +2,8 @@ import java.util.Random;
 
 /** Random runs of calls, each call with the answer of Model, and the digest behind it. */
 public final class ModelTest {
-    private static final int CALLS = 512;
+    /** An object has at most 512 calls; behind this one there can be a call, parse and two digests. */
+    private static final int CALLS = 508;
     private static int calls = 0;
 
     private static Random random;
@@ -11,7 +12,7 @@ public final class ModelTest {
     private static StringBuilder history;
 
     public static void main(String[] args) {
-        int runs = args.length > 0 ? Integer.parseInt(args[0]) : 300;
+        int runs = args.length > 0 ? Integer.parseInt(args[0]) : 400;
         for (int run = 0; run < runs; run++) {
             random = new Random(run);
             x = new GearGauge();
@@ -37,7 +38,11 @@ public final class ModelTest {
         Object w = Due.outcome(want);
         Due.is(call, g, w);
         // The digest of the model is dear.
-        boolean same = random.nextInt(3) != 0 || x.digest() == m.digest();
+        boolean same = true;
+        if (random.nextInt(3) == 0) {
+            calls++;
+            same = x.digest() == m.digest();
+        }
         Due.is(call + ": digest as due", same, true);
         if (!w.equals(g) || !same) {
             System.out.println(history);

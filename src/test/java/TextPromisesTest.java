@@ -122,14 +122,14 @@ public final class TextPromisesTest {
     }
 
     private static void longText() {
-        GearGauge x = new GearGauge();
         StringBuilder text = new StringBuilder("l0");
         for (int i = 1; i < 79; i++) {
             text.append(",0");
         }
-        Due.is("parse 159 bytes that end too early", parsed(x, text.toString()), -10 - 158);
-        Due.is("parse 79 readings", parsed(x, text + ";"), -1000);
-        Due.is("parse 79 readings and a comma", parsed(x, text + ",0"), -10 - 160);
+        Due.is("parse 159 bytes that end too early", parsed(new GearGauge(), text.toString()), -10 - 158);
+        Due.is("parse 79 readings", parsed(new GearGauge(), text + ";"), -1000);
+        Due.is("parse 79 readings and a comma", parsed(new GearGauge(), text + ",0"), -10 - 160);
+        GearGauge x = new GearGauge();
         StringBuilder gears = new StringBuilder("g30,20;f");
         for (int i = 0; i < 30; i++) {
             gears.append(i > 0 ? "," : "").append(100 + i);
