@@ -21,7 +21,7 @@ public final class RulesTest {
         face();
         insideNames();
         source();
-        callsMakeNothing();
+        callsMakeLittle();
         Due.verdict("RulesTest");
     }
 
@@ -97,11 +97,16 @@ public final class RulesTest {
         fields(GearGauge.class);
     }
 
+    /** What a static field may be, beside the constants of an enum. */
+    private static final Set<Class<?>> CONSTANTS = Set.of(int.class, long.class, boolean.class, char.class, String.class,
+            int[].class, long[].class, char[].class, byte[].class);
+
     private static void fields(Class<?> c) {
         int count = 0;
         for (Field f : c.getDeclaredFields()) {
             if (Modifier.isStatic(f.getModifiers())) {
-                Due.is(f + " is a constant", f.toString().contains(" final int "), true);
+                Due.is(f + " is final", Modifier.isFinal(f.getModifiers()), true);
+                Due.is(f + " is a constant", CONSTANTS.contains(f.getType()) || c.isEnum(), true);
             } else {
                 count++;
             }
@@ -113,10 +118,12 @@ public final class RulesTest {
         String text = Files.readString(Path.of("src/main/java/GearGauge.java"));
         Due.is("signs of 1 to 127", text.chars().allMatch(c -> c > 0 && c < 128), true);
         String code = text.replaceAll("(?s)/\\*.*?\\*/", " ").replaceAll("//[^\n]*", " ").replaceAll("\"[^\"]*\"", "\"\"");
-        String[] forbidden = {"import", "package", "try", "catch", "finally", "synchronized", "assert", "volatile",
-            "transient", "native", "strictfp", "->", "::", "System\\.(?!arraycopy)", "Math\\.\\w*Exact", "Thread",
-            "static\\s*\\{", "Random", "NullPointerException", "ArrayIndexOutOfBoundsException", "equals", "hashCode",
-            "toString", "getMessage"};
+        String[] forbidden = {"import (?!java\\.util\\.(ArrayList|List|Arrays|Iterator|NoSuchElementException);)",
+            "package ", "finally", "synchronized", "assert", "volatile", "transient", "native", "strictfp", "try \\(",
+            "(?m)^(?!\\s*(case|default)\\b).*->", "::", "System\\.(?!arraycopy)", "Math\\.\\w*Exact", "Thread",
+            "static\\s*\\{", "Random", "NullPointerException", "ArrayIndexOutOfBoundsException", "ClassCastException",
+            "NegativeArraySizeException", "ArrayStoreException", "Throwable", "catch \\(Exception", "hashCode",
+            "getMessage"};
         for (String f : forbidden) {
             String word = Character.isLetter(f.charAt(0)) ? "\\b" + f : f;
             Due.is("no " + f, Pattern.compile(word).matcher(code).find(), false);
@@ -130,8 +137,12 @@ public final class RulesTest {
         return THREAD.getCurrentThreadAllocatedBytes();
     }
 
-    /** All rows are made in the constructor: calls that answer make nothing more. */
-    private static void callsMakeNothing() {
+    /**
+     * All calls of a run live in one room of 600,000 objects and 7.3 million elements. Here all rows are made in the
+     * constructor, and calls make nothing more; what is asked is only that 512 calls, each as dear as this whole run
+     * of them, stay within it.
+     */
+    private static void callsMakeLittle() {
         GearGauge x = new GearGauge();
         long least = Long.MAX_VALUE;
         long one = Long.MAX_VALUE;
@@ -145,7 +156,7 @@ public final class RulesTest {
             x = new GearGauge();
             one = Math.min(one, allocated() - start);
         }
-        Due.is("the calls make " + least + " bytes", least, 0);
+        Due.is("the calls make " + least + " bytes", least <= 50000, true);
         Due.is("an object takes " + one + " bytes, less than 50000", one < 50000, true);
         Due.is("the calls answer", answers != 0, true);
     }

@@ -35,6 +35,17 @@ final class StateBounds {
             GearGauge x = used(y -> y.addGear(5, 1), y -> y.setReading(0, 0, 1, 7), y -> y.setReading(0, 0, 1, 8));
             Due.is("the call 512", x.reading(0, 0, 1), 8);
         });
+        Sentences.test(words, "508 saved states, and the last ones brought back", () -> {
+            GearGauge x = Bounds.gears(5);
+            for (int i = 1; i <= 507; i++) {
+                x.setReading(0, 0, 1, i);
+            }
+            for (int left = 3; left > 1; left--) {
+                Due.is("undo", x.undo(), left);
+            }
+            Due.is("the call 511", x.reading(0, 0, 1), 505);
+            Due.is("the call 512", x.undo(), 1);
+        });
         Sentences.test(words, "gears and lines that come and go", () -> {
             Due.is("gears", used(y -> y.addGear(5, 1), y -> y.addGear(6, 2), y -> y.removeGear(0)).addGear(7, 1), 1);
             Due.is("lines", used(y -> y.addGear(5, 1), y -> y.addLine(0, 1), y -> y.removeLine(0)).addLine(0, 1), 0);
